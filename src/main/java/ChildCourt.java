@@ -23,6 +23,8 @@ public final class ChildCourt {
 
     private static final int OF_SENTENCED = 0, OF_LAST_END = 1, OF_CASES = 10;
     private static final int WORTH_BASE = 100;
+    // Less than the WEIGHTS of all cases together, taken off 0.
+    private static final int BELOW_ALL = -1000;
 
     private static final int CHILD_BODY = 1, HUNGRY_BODY = 2, SWEET_BODY = 3;
     private static final int LENT_BODY = 4, OWN_BODY = 5;
@@ -522,7 +524,7 @@ public final class ChildCourt {
 
     private int findOrderOfHighest(int sign) {
         prepareByNumbers();
-        int highest = Integer.MIN_VALUE;
+        int highest = BELOW_ALL;
         boolean isMore = true;
         // Orders come as rows do, so only a higher one may take the place of an earlier one.
         for (int tried = 0; isMore && tried < MOST_ORDERS; tried++) {
@@ -894,7 +896,8 @@ public final class ChildCourt {
         private void judge(int c, boolean isFirst) {
             int deed = of.deed[c];
             if (isFirst) {
-                verdictOnDeed[deed] = verdictByVotes(deed);
+                int guilty = Integer.bitCount(guiltyVotes(deed, end));
+                verdictOnDeed[deed] = 2 * guilty > Integer.bitCount(voters()) ? GUILTY : ACQUITTED;
             }
             verdict[c] = verdictOnDeed[deed];
             if (verdict[c] == GUILTY) {
@@ -902,30 +905,30 @@ public final class ChildCourt {
             }
         }
 
-        private int verdictByVotes(int deed) {
+        private int voters() {
             int all = (1 << of.jurors) - 1;
-            int voters = Integer.bitCount(all & ~struck);
-            int guilty = Integer.bitCount(guiltyVotes(deed, end));
-            return 2 * guilty > voters ? GUILTY : ACQUITTED;
+            return all & ~struck;
         }
 
+        /** Who votes for guilty, as a set; the sweets that are eaten then are gone from this sitting. */
         int guiltyVotes(int deed, int minute) {
+            boolean isCrime = bitOf(law, deed) == 1;
+            int voters = voters();
             int set = 0;
             for (int j = 0; j < of.jurors; j++) {
-                if (bitOf(struck, j) == 0) {
-                    set = withBit(set, j, votesGuilty(j, deed, minute));
+                if (bitOf(voters, j) == 1 && votesGuilty(j, isCrime, minute)) {
+                    set |= 1 << j;
                 }
             }
             return set;
         }
 
-        private boolean votesGuilty(int j, int deed, int minute) {
-            if (kind[j] == SWEET && bitOf(uneaten, j) == 1) {
-                uneaten = withBit(uneaten, j, false);
+        private boolean votesGuilty(int j, boolean isCrime, int minute) {
+            if (kind[j] == SWEET && (uneaten & 1 << j) != 0) {
+                uneaten &= ~(1 << j);
                 return false;
             }
-            boolean isHungryNow = kind[j] == HUNGRY && minute >= HUNGER_BY_AGE * of.age[j];
-            return isHungryNow || bitOf(law, deed) == 1;
+            return isCrime || kind[j] == HUNGRY && minute >= HUNGER_BY_AGE * of.age[j];
         }
     }
 }
