@@ -5,6 +5,7 @@ public final class OrdersTest {
     public static void main(String[] args) {
         mostAndDelay();
         firstOfSeveralOrders();
+        lastOfAllOrders();
         mostRefusals();
         bribes();
         bribeRefusalsAndFaults();
@@ -52,6 +53,19 @@ public final class OrdersTest {
         dueOrder(y, "ties", 12, new int[] {2, 0, 1, 3, 4}, 8, new int[] {0, 1, 2, 3, 4});
         ChildCourt z = Due.courtOf("k60,c1;011", 0);
         dueOrder(z, "one", 0, new int[] {0}, 0, new int[] {0});
+    }
+
+    private static void lastOfAllOrders() {
+        // Deeds 3 and 4 are crimes: 3 and 1 by minute 6, 5 at 15, when two are hungry, 9 at 17.
+        ChildCourt x = Due.courtOf("k20,s5,h1,h3;294;129;595;331;353", 24);
+        // Deeds 0, 4 and 5 are crimes: acquitted at 8 by two of four, 2 and 3 by minute 18, then home.
+        ChildCourt y = Due.courtOf("k22,h3,h1,s2,h1;427;559;463;492;389", 49);
+        D.due("the most, last", x.most(-1), 18);
+        D.due("the least, last", y.delay(-1), 5);
+        for (int k = 0; k < 5; k++) {
+            D.due("the most, last " + k, x.most(k), 4 - k);
+            D.due("the least, last " + k, y.delay(k), 4 - k);
+        }
     }
 
     private static void mostRefusals() {
@@ -135,8 +149,7 @@ public final class OrdersTest {
         ChildCourt z = Due.courtOf("k60,c1,c1;057", 1);
         D.due("nobody is left", z.strikes(0), 0);
         D.due("his", z.strikes(1), 0);
-        z.treat(0, true);
-        // The court must strike a voter of its own, if there is no other.
+        // The court strikes the one who would not vote for guilty.
         ChildCourt v = Due.courtOf("k60,h1,s1,c1;057", 1);
         v.treat(1, true);
         D.due("the court strikes the sweet one", v.strikes(0), 7);
