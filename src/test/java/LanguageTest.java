@@ -26,6 +26,8 @@ public final class LanguageTest {
         absent(code, "(?m)^import (?!java\\.util\\.(Arrays|ArrayList|List|Iterator);)");
         // State that is static is final.
         absent(code, "\\bstatic\\s+(?!final\\b)[\\w\\[\\]]+\\s+\\w+\\s*(=|;)");
+        // All rows are made with the object, so that no run of calls fills the room.
+        absent(code.replace("sheets[k] = new Sheet();", ""), "(?m)^(?! *private final ).*\\bnew\\b");
         methodsAreShort(code);
         D.end();
     }
